@@ -14,8 +14,8 @@ public final class LadderForge {
     private final Text[] texts = new Text[MOST_TEXTS];
     private final Tool[] tools = new Tool[MOST_TOOLS];
     private int toolCount = 0;
-    private final PairsMaker pairsMaker = new PairsMaker();
-    private final NamedMaker namedMaker = new NamedMaker();
+    private final Maker pairsMaker = new PairsMaker();
+    private final Maker namedMaker = new NamedMaker();
     // Only run() may touch this one: ran() and tape() tell of it until the next run().
     private final Machine latest = new Machine();
     private final Machine one = new Machine();
@@ -308,7 +308,7 @@ public final class LadderForge {
             case 1: return editions.held;
             case 2: return typed.length;
             case 3: return checkedTools();
-            case 4: return sealedTools();
+            case 4: return sealedTools(staleBits());
             default: return BAD;
         }
     }
@@ -336,17 +336,13 @@ public final class LadderForge {
         if (text == null) {
             return BAD;
         }
-        int fault = faultIn(text, how);
-        return fault == NONE ? keep(draftOf(how), how, i, NONE) : CODED - fault;
+        Maker maker = makerBy(how);
+        int fault = maker.faultIn(text);
+        return fault == NONE ? keep(maker.draft, how, i, NONE) : CODED - fault;
     }
 
-    /** The FAULT, or NONE: then the draft of that way holds what the text says. */
-    private int faultIn(Text text, int how) {
-        return how == BY_PAIRS ? pairsMaker.faultIn(text) : namedMaker.faultIn(text);
-    }
-
-    private Code draftOf(int how) {
-        return how == BY_PAIRS ? pairsMaker.draft : namedMaker.draft;
+    private Maker makerBy(int how) {
+        return how == BY_PAIRS ? pairsMaker : namedMaker;
     }
 
     private int keep(Code made, int how, int text, int builder) {
@@ -366,7 +362,8 @@ public final class LadderForge {
         if (tool.how == BY_TOOL) {
             return builtAgain(tool, text);
         }
-        return faultIn(text, tool.how) == NONE ? tool.code.unlike(draftOf(tool.how)) : NOTHING_CAME;
+        Maker maker = makerBy(tool.how);
+        return maker.faultIn(text) == NONE ? tool.code.unlike(maker.draft) : NOTHING_CAME;
     }
 
     private int builtAgain(Tool tool, Text text) {
@@ -374,10 +371,11 @@ public final class LadderForge {
         if (builder == null) {
             return NOTHING_CAME;
         }
-        if (one.builds(builder.code, text)) {
-            return tool.code.unlike(one.out);
+        one.goThrough(builder.code, text);
+        if (one.harm != 0) {
+            return CODED - one.harm;
         }
-        return one.harm == 0 ? NOTHING_CAME : CODED - one.harm;
+        return one.out.length == 0 ? NOTHING_CAME : tool.code.unlike(one.out);
     }
 
     private int staleBits() {
@@ -442,8 +440,7 @@ public final class LadderForge {
         return found;
     }
 
-    private int sealedTools() {
-        int staleOnes = staleBits();
+    private int sealedTools(int staleOnes) {
         int found = 0;
         for (int i = 0; i < toolCount; i++) {
             if (isSealed(i, staleOnes)) {
@@ -680,7 +677,7 @@ public final class LadderForge {
             int n = memory[p + 1 & LOW_BYTE] & LOW_BYTE;
             int next = p + (hasNumber(order) ? 2 : 1);
             switch (order) {
-                case IN: take(tape); break;
+                case IN: take(tape.at(taken)); break;
                 case OUT: out.add(a, Math.max(0, taken - 1)); break;
                 case SET: a = n; break;
                 case LOAD: a = memory[n]; break;
@@ -700,22 +697,27 @@ public final class LadderForge {
             p = next & LOW_BYTE;
         }
 
-        private void take(Text tape) {
-            if (taken < tape.length) {
-                a = tape.at(taken);
-                taken++;
-            } else {
+        private void take(int b) {
+            if (b == BAD) {
                 a = 0;
                 ended = true;
+            } else {
+                a = b;
+                taken++;
             }
         }
     }
 
-    /** Makes texts of digit pairs to code. */
-    private static final class PairsMaker {
-        private final Code draft = new Code(BYTES);
+    /** Makes a text to code: the draft, which the next text overwrites. */
+    private abstract static class Maker {
+        final Code draft = new Code(BYTES);
 
-        /** The FAULT, or NONE. */
+        /** The FAULT, or NONE: then the draft holds what the text says. */
+        abstract int faultIn(Text text);
+    }
+
+    /** Makes texts of digit pairs to code. */
+    private static final class PairsMaker extends Maker {
         int faultIn(Text text) {
             draft.length = 0;
             int at = text.pastGap(0);
@@ -743,19 +745,17 @@ public final class LadderForge {
     }
 
     /** Makes texts of words, numbers and letters to code. */
-    private static final class NamedMaker {
+    private static final class NamedMaker extends Maker {
         private static final int LETTERS = 26, WORD_SIGNS = 5, WORDS = 17, BYTE = 16;
         private static final String SPELT =
             "stop in   out  set  load storeadd  sub  get  put  to   jump zero end  plus minusbyte ";
         private static final int AN_ITEM = 0, A_COLON = 1, A_NUMBER = 2;
 
-        private final Code draft = new Code(BYTES);
         private final int[] placeOf = new int[LETTERS];
         private final int[] letterUsed = new int[BYTES];
         private int due = AN_ITEM;
         private int letterAt = NONE;
 
-        /** The FAULT, or NONE. */
         int faultIn(Text text) {
             begin();
             int at = text.pastGap(0);
@@ -820,9 +820,9 @@ public final class LadderForge {
                 return takesColon(at);
             }
             if (isLetter(first)) {
-                return takesLetter(first - 'A', at);
+                return due == A_NUMBER ? takesLetter(first - 'A', at) : takesPlace(first - 'A', at);
             }
-            return isDigit(first) ? takesNumber(text, at, signs) : takesWord(text, at, signs);
+            return isDigit(first) ? takesNumber(valueOf(text, at, signs), at) : takesWord(wordOf(text, at, signs), at);
         }
 
         private boolean takesColon(int at) {
@@ -833,14 +833,8 @@ public final class LadderForge {
             return true;
         }
 
-        private boolean takesLetter(int letter, int at) {
-            if (letter < 0 || letter >= LETTERS || due == A_COLON) {
-                return false;
-            }
-            if (due == A_NUMBER) {
-                return takesLetterAsNumber(letter, at);
-            }
-            if (placeOf[letter] != NONE) {
+        private boolean takesPlace(int letter, int at) {
+            if (due != AN_ITEM || letter < 0 || letter >= LETTERS || placeOf[letter] != NONE) {
                 return false;
             }
             placeOf[letter] = draft.length;
@@ -849,7 +843,7 @@ public final class LadderForge {
             return true;
         }
 
-        private boolean takesLetterAsNumber(int letter, int at) {
+        private boolean takesLetter(int letter, int at) {
             int i = draft.length;
             if (i < 0 || i >= BYTES) {
                 return false;
@@ -859,8 +853,7 @@ public final class LadderForge {
             return draft.add(0, at);
         }
 
-        private boolean takesNumber(Text text, int at, int signs) {
-            int value = valueOf(text, at, signs);
+        private boolean takesNumber(int value, int at) {
             if (due != A_NUMBER || value == NONE) {
                 return false;
             }
@@ -879,8 +872,7 @@ public final class LadderForge {
             return value > LOW_BYTE ? NONE : value;
         }
 
-        private boolean takesWord(Text text, int at, int signs) {
-            int word = wordOf(text, at, signs);
+        private boolean takesWord(int word, int at) {
             if (due != AN_ITEM || word == NONE) {
                 return false;
             }
@@ -897,22 +889,19 @@ public final class LadderForge {
                 return NONE;
             }
             for (int word = 0; word < WORDS; word++) {
-                if (isSpelt(word, text, at, signs)) {
+                int alike = 0;
+                for (int i = 0; i < WORD_SIGNS && alike == i; i++) {
+                    int place = WORD_SIGNS * word + i;
+                    int is = i < signs ? text.at(at + i) : ' ';
+                    if (place < SPELT.length() && SPELT.charAt(place) == is) {
+                        alike++;
+                    }
+                }
+                if (alike == WORD_SIGNS) {
                     return word;
                 }
             }
             return NONE;
-        }
-
-        private static boolean isSpelt(int word, Text text, int at, int signs) {
-            for (int i = 0; i < WORD_SIGNS; i++) {
-                int place = WORD_SIGNS * word + i;
-                int is = i < signs ? text.at(at + i) : ' ';
-                if (place < 0 || place >= SPELT.length() || SPELT.charAt(place) != is) {
-                    return false;
-                }
-            }
-            return true;
         }
 
         /** Letters used as n become numbers: NONE, or where the first one stands that is no PLACE's. */

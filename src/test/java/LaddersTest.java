@@ -85,6 +85,8 @@ public final class LaddersTest {
         due.is("none is shorter, builds", f.needed(3, 5, 1), LadderForge.NONE);
         due.is("to itself", f.needed(0, 0, 0), LadderForge.NONE);
         due.is("to itself, builds", f.needed(0, 0, 1), LadderForge.NONE);
+        due.is("word 0", f.needed(5, 1, 0), 0);
+        due.is("word 0, builds", f.needed(5, 1, 1), 1);
         due.is("where none was", f.needed(5, 0, 0), 15);
         due.is("where none was, builds", f.needed(5, 0, 1), 1);
         f.edition(1 << 4 | 1 << 5, 0);

@@ -8,7 +8,9 @@ import java.nio.file.Path;
 import java.util.ArrayList;
 import java.util.Arrays;
 import java.util.List;
+import java.util.Map;
 import java.util.Set;
+import java.util.TreeMap;
 import java.util.TreeSet;
 import java.util.regex.Matcher;
 import java.util.regex.Pattern;
@@ -131,17 +133,38 @@ public final class LanguageTest {
         none("joining texts by +", found("\"\\s*\\+|\\+\\s*\"", plain));
     }
 
-    /** A method's lines: from the line that opens it, four or eight blanks in, to the one that closes it. */
+    /** What opens a method or a constructor, four or eight blanks in; its name. */
+    private static final Pattern OPENS = Pattern.compile("(?:    |        )(?!if|for|while|switch|do\\b)[a-zA-Z][^=;]*?(\\w+)\\([^=;]*\\) \\{");
+
+    /** Methods of one name count as one: what is seen is at least as deep as what is. */
     private static void lengths() throws Exception {
         List<String> lines = Files.readAllLines(FILE, StandardCharsets.ISO_8859_1);
+        Map<String, Set<String>> calls = new TreeMap<>();
         for (int i = 0; i < lines.size(); i++) {
             String line = lines.get(i);
-            String in = line.startsWith("        ") ? "        " : "    ";
-            if (line.matches("(    |        )[a-zA-Z].*\\) \\{") && !line.matches(" *(if|for|while|switch|do)\\b.*")) {
+            due.is("a line's length: " + line, line.length() <= 120 ? 1 : 0, 1);
+            Matcher opens = OPENS.matcher(line);
+            if (opens.matches()) {
+                String in = line.startsWith("        ") ? "        " : "    ";
                 int end = lines.subList(i, lines.size()).indexOf(in + "}");
                 due.is("at most sixty lines: " + line.trim(), end >= 0 && end < 60 ? 1 : 0, 1);
+                String body = plain(String.join("\n", lines.subList(i + 1, i + end)));
+                calls.computeIfAbsent(opens.group(1), name -> new TreeSet<>()).addAll(found("\\b\\w+(?=\\()", body));
             }
-            due.is("a line's length: " + line, line.length() <= 120 ? 1 : 0, 1);
         }
+        due.is("methods were found", calls.keySet().containsAll(List.of("trace", "goThrough", "faultIn", "step")) ? 1 : 0, 1);
+        for (String name : calls.keySet()) {
+            due.is("calls at most eight deep, none in a ring: " + name, deep(name, calls, 0) <= 8 ? 1 : 0, 1);
+        }
+    }
+
+    private static int deep(String name, Map<String, Set<String>> calls, int above) {
+        int most = 0;
+        if (above < 12) {
+            for (String other : calls.getOrDefault(name, Set.of())) {
+                most = Math.max(most, deep(other, calls, above + 1));
+            }
+        }
+        return 1 + most;
     }
 }

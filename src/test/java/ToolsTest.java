@@ -123,9 +123,12 @@ public final class ToolsTest {
         }
         due.is("all letters", Due.named(f, 4, all + "jump Z"), 4);
         due.is("Z's place", f.code(4, 27, 0), 25);
-        due.is("100 bytes of names", Due.named(f, 5, Due.times("set1", 50)), 5);
-        due.is("100 bytes", f.tool(5, 0), 100);
-        due.is("by NAMED", f.tool(5, 1), 1);
+        due.is("a letter as the first byte", Due.named(f, 6, "byte B in B:"), 5);
+        bytes("a letter as the first byte", f, 5, 2, 1);
+        namedFault("byte B in", 5);
+        due.is("100 bytes of names", Due.named(f, 5, Due.times("set1", 50)), 6);
+        due.is("100 bytes", f.tool(6, 0), 100);
+        due.is("by NAMED", f.tool(6, 1), 1);
     }
 
     private static void namedFault(String text, int fault) {

@@ -2,6 +2,9 @@
 public final class WaysRoundTest {
     private static final Due due = new Due();
     private static final String COPY = "L: in end Z out jump L Z: stop";
+    /** 25 bytes that put themselves out, the last as 1 less it: every second build is the same. */
+    private static final String TURNING = "set 1 sub C store C A: load 200 to get out "
+        + "load 200 plus 1 store 200 plus 231 zero Z jump A Z: stop C: byte 0";
 
     public static void main(String[] args) {
         rebuiltFromText();
@@ -116,6 +119,8 @@ public final class WaysRoundTest {
             due.is("and makes no tool", f.count(0), 1);
         }
         LadderForge f = new LadderForge();
+        due.is("turns to the end", f.settles(Due.named(f, 0, TURNING), 7), LadderForge.NONE);
+        f = new LadderForge();
         int copy = Due.named(f, 0, COPY);
         Due.put(f, 1, "" + (char) 2 + (char) 16);
         due.is("HARM behind the first", f.settles(copy, 1), LadderForge.NONE);
@@ -180,11 +185,15 @@ public final class WaysRoundTest {
         due.is("but the trap does", f.hides(trap, later, 3), 1);
         due.is("the round is 0", f.hides(trap, soon, 3), 0);
         due.is("with itself", f.hides(trap, trap, 3), 0);
-        due.is("hides(4, 0, 0)", f.hides(4, 0, 0), LadderForge.BAD);
-        due.is("hides(0, 4, 0)", f.hides(0, 4, 0), LadderForge.BAD);
+        int turning = Due.named(f, 2, TURNING);
+        due.is("its second build is itself", f.round(turning, turning, 3), 0);
+        due.is("unlike at the first byte", f.round(turning, trap, 3), 1);
+        due.is("but its first is not itself", f.hides(turning, trap, 3), 0);
+        due.is("hides(5, 0, 0)", f.hides(5, 0, 0), LadderForge.BAD);
+        due.is("hides(0, 5, 0)", f.hides(0, 5, 0), LadderForge.BAD);
         due.is("hides(0, 0, 8)", f.hides(0, 0, 8), LadderForge.BAD);
         due.is("hides(0, 0, -1)", f.hides(0, 0, -1), LadderForge.BAD);
-        due.is("makes no tool", f.count(0), 4);
+        due.is("makes no tool", f.count(0), 5);
     }
 
     private static void check() {
@@ -278,6 +287,7 @@ public final class WaysRoundTest {
         LadderForge f = family();
         due.is("all", f.least(63), 33);
         due.is("none", f.least(0), 0);
+        due.is("the first itself", f.least(1), 1);
         due.is("the last of a chain", f.least(4), 1);
         due.is("those by NAMED", f.least(24), 0);
         due.is("5", f.least(32), 32);
