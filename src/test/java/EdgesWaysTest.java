@@ -373,7 +373,10 @@ public final class EdgesWaysTest {
         due.is("does not build itself, ROUND is not 0", f.hides(later, trap, 1), 0);
         due.is("does not build itself, ROUND is 0", f.hides(soon, trap, 1), 0);
         due.is("the other one builds itself, too", f.hides(copy, trap, 1), 1);
-        due.is("makes no tool", f.count(0), 4);
+        int more = Due.named(f, 0, COPY.replace("stop", "set 5 out stop"));
+        due.is("unlike at the first byte", f.round(more, trap, 1), 1);
+        due.is("but it does not build itself", f.hides(more, trap, 1), 0);
+        due.is("makes no tool", f.count(0), 5);
     }
 
     private static void hidesState() {
