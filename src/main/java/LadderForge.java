@@ -346,7 +346,7 @@ public final class LadderForge {
     }
 
     private int keep(Code made, int how, int text, int builder) {
-        if (toolCount >= MOST_TOOLS) {
+        if (toolCount < 0 || toolCount >= MOST_TOOLS) {
             return FULL;
         }
         tools[toolCount] = new Tool(made.copied(), how, text, builder);
